@@ -10,6 +10,7 @@ public final class CrewsTest {
         promise33Strike();
         promise34LostDays();
         promise34LostDaysIsTheFirst();
+        promise34LostDaysOfTwoWorks();
         Due.end("CrewsTest");
     }
 
@@ -192,6 +193,25 @@ public final class CrewsTest {
         x.pass(3);
         Due.is("lostDays(0, 'c'), done", x.lostDays(0, 'c'), 3);
         Due.is("lostDays(0, 's'), done", x.lostDays(0, 's'), 0);
+    }
+
+    private static void promise34LostDaysOfTwoWorks() {
+        TwofrontArcade x = Streets.withWorksOn(10, 0, 9);
+        x.addCrew('d');
+        x.addCrew('n');
+        x.send(0, 0);
+        x.send(1, 9);
+        x.pass(3);
+        for (int unit : new int[] {0, 9}) {
+            Due.is("left(" + unit + ")", x.left(unit), 6);
+            for (char cause : new char[] {'s', 'c', 'q', 'p'}) {
+                Due.is("lostDays(" + unit + ", '" + cause + "')", x.lostDays(unit, cause), 0);
+            }
+        }
+        x.send(1, -1);
+        x.pass(1);
+        Due.is("lostDays(0, 'c'), a crew there", x.lostDays(0, 'c'), 0);
+        Due.is("lostDays(9, 'c'), none there", x.lostDays(9, 'c'), 1);
     }
 
     private static void promise34LostDaysIsTheFirst() {

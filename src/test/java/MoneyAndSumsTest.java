@@ -10,6 +10,7 @@ public final class MoneyAndSumsTest {
         promise40Fund();
         promise41Checksum();
         promises42And43Shares();
+        fullStreet();
         Due.end("MoneyAndSumsTest");
     }
 
@@ -163,6 +164,28 @@ public final class MoneyAndSumsTest {
             sum = sum * 31 + part;
         }
         Due.is("checksum()", x.checksum(), sum);
+    }
+
+    /** Ten units, ten shops and four crews, as many as there can be. */
+    private static void fullStreet() {
+        TwofrontArcade x = Streets.of(10, 12);
+        for (int i = 0; i < 4; i++) {
+            x.addCrew('n');
+        }
+        for (int i = 0; i < 10; i++) {
+            x.addShop(i, i < 9 ? i + 1 : 9, 0, false, 0, 9);
+        }
+        x.pass(1);
+        x.toStall(9);
+        x.pass(2);
+        Due.is("took(9) of ten", x.took(9), 900 + 261);
+        Due.is("lost(9, 'm') of ten", x.lost(9, 'm'), 639);
+        Due.is("fund() of ten", x.fund(), 319);
+        Due.is("openShare() of ten", x.openShare(), 1f);
+        Due.is("meanTaken() of ten", x.meanTaken(), (45 * 300 + 1161) / 10.0);
+        x.store(0);
+        Due.is("openShare() of nine by ten", x.openShare(), 9f / 10f);
+        Due.is("isSound() of ten", x.isSound(), true);
     }
 
     private static void promises42And43Shares() {

@@ -14,6 +14,7 @@ public final class ProgrammeTest {
         lowestFirst();
         aBreakWouldHelp();
         longOnes();
+        startInAlone();
         moreThanFive();
         wrongInputs();
         for (int street = 0; street < STREETS; street++) {
@@ -69,6 +70,12 @@ public final class ProgrammeTest {
         x.rest(0, 1);
         x.rest(1, 2);
         programme("a chain", x, 9, 6, 1, 0);
+        // just one order of five has each behind all on which it rests
+        TwofrontArcade z = planned(1, 2, 3, 4, 5);
+        for (int unit = 0; unit < 4; unit++) {
+            z.rest(unit, unit + 1);
+        }
+        programme("a chain of five", z, 15, 14, 12, 9, 5, 0);
         TwofrontArcade y = Streets.of(3, 12);
         y.plan(0, 1);
         y.notice(0, 7);
@@ -130,6 +137,14 @@ public final class ProgrammeTest {
             }
         }
         programme("all beside each other", x, 300, 0, 60, 120, 180, 240);
+    }
+
+    private static void startInAlone() {
+        TwofrontArcade x = planned(2, 3, 2);
+        Due.is("startIn(2) ahead of shortest()", x.startIn(2), 2);
+        x.rest(0, 2);
+        Due.is("startIn(0) behind a change", x.startIn(0), 2);
+        Due.is("startIn(2) behind a change", x.startIn(2), 0);
     }
 
     private static void moreThanFive() {

@@ -60,6 +60,18 @@ public final class RandomRunsTest {
             return chance(30) == 0 ? chance(7) - 2 : chance(Math.max(crews, 1));
         }
 
+        /** A unit to send a crew to, mostly one whose work is on. */
+        private int place() {
+            int start = chance(units);
+            for (int i = 0; i < units && chance(4) != 0; i++) {
+                int unit = (start + i) % units;
+                if (stateOf(unit) == 'w') {
+                    return unit;
+                }
+            }
+            return chance(5) == 0 ? -1 : unit();
+        }
+
         private char sign() {
             return SIGNS[chance(SIGNS.length)];
         }
@@ -118,8 +130,8 @@ public final class RandomRunsTest {
 
         private void stepOfDays() {
             switch (chance(9)) {
-                case 0 -> crews += tryCall("addCrew", () -> x.addCrew(sign()), Due.BAD, Due.FULL) ? 1 : 0;
-                case 1, 2 -> tryCall("send", () -> x.send(crew(), chance(5) == 0 ? -1 : unit()), Due.NO_SUCH);
+                case 0 -> crews += tryCall("addCrew", () -> x.addCrew(SIGNS[chance(4)]), Due.BAD, Due.FULL) ? 1 : 0;
+                case 1, 2 -> tryCall("send", () -> x.send(crew(), place()), Due.NO_SUCH);
                 case 3 -> setPeople(chance(9) - 1, chance(1010) - 5);
                 case 4 -> strike(chance(33) == 0 ? 31 : chance(3));
                 case 5 -> tryCall("pass", () -> x.pass(31 + chance(3)), Due.BAD);
@@ -218,14 +230,14 @@ public final class RandomRunsTest {
         /** The shop's pull and goods are read from what the object holds, for no call tells them. */
         private long[] moneyBehindToday(int shop) {
             long[] due = money(shop);
-            long could = (long) people[x.day() % 7] * (int) held(shop, "pull");
+            long could = (long) people[x.day() % 7] * (int) held("shops", shop, "pull");
             if (isShutToday(shop)) {
                 due[4] += could;
                 return due;
             }
             long sight = could * x.seen(shop) / 100;
             long habit = sight * x.known(shop) / (x.state(shop) == 't' ? 200 : 100);
-            long taken = x.isDusty(shop) && (boolean) held(shop, "isClean") ? habit / 2 : habit;
+            long taken = x.isDusty(shop) && (boolean) held("shops", shop, "isClean") ? habit / 2 : habit;
             due[0] += taken;
             due[1] += could - sight;
             due[2] += sight - habit;
@@ -233,11 +245,11 @@ public final class RandomRunsTest {
             return due;
         }
 
-        private Object held(int shop, String field) {
+        private Object held(String row, int number, String field) {
             try {
-                java.lang.reflect.Field row = TwofrontArcade.class.getDeclaredField("shops");
-                row.setAccessible(true);
-                Object it = java.lang.reflect.Array.get(row.get(x), shop);
+                java.lang.reflect.Field all = TwofrontArcade.class.getDeclaredField(row);
+                all.setAccessible(true);
+                Object it = java.lang.reflect.Array.get(all.get(x), number);
                 java.lang.reflect.Field found = it.getClass().getDeclaredField(field);
                 found.setAccessible(true);
                 return found.get(it);
@@ -249,7 +261,8 @@ public final class RandomRunsTest {
         private String works() {
             StringBuilder text = new StringBuilder();
             for (int unit = 0; unit < units; unit++) {
-                text.append(told(unit, stateOf(unit), stateOf(unit) == '-' ? 0 : x.left(unit), lostDays(unit)));
+                int left = stateOf(unit) == '-' ? 0 : x.left(unit);
+                text.append(told(unit, stateOf(unit), left, lostDays(unit, '-')));
             }
             return text.toString();
         }
@@ -260,15 +273,15 @@ public final class RandomRunsTest {
                 char state = stateOf(unit);
                 int left = state == '-' ? 0 : x.left(unit);
                 int workers = state == 'w' ? workersAt(unit) : 0;
-                int lost = lostDays(unit) + (state == 'w' && workers == 0 ? 1 : 0);
+                String lost = lostDays(unit, state == 'w' && workers == 0 ? causeAt(unit) : '-');
                 left = Math.max(left - workers, 0);
                 text.append(told(unit, state == 'w' && left == 0 ? 'd' : state, left, lost));
             }
             return text.toString();
         }
 
-        private static String told(int unit, char state, int left, int lost) {
-            return unit + " " + state + " " + left + " " + lost + "; ";
+        private static String told(int unit, char state, int left, String lost) {
+            return unit + " " + state + " " + left + lost + "; ";
         }
 
         private char stateOf(int unit) {
@@ -279,20 +292,42 @@ public final class RandomRunsTest {
             }
         }
 
-        private int lostDays(int unit) {
-            return x.lostDays(unit, 's') + x.lostDays(unit, 'c') + x.lostDays(unit, 'q') + x.lostDays(unit, 'p');
+        /** The days that a work lost by each cause, with one more by one of them. */
+        private String lostDays(int unit, char more) {
+            StringBuilder text = new StringBuilder();
+            for (char cause : new char[] {'s', 'c', 'q', 'p'}) {
+                text.append(' ').append(x.lostDays(unit, cause) + (cause == more ? 1 : 0));
+            }
+            return text.toString();
         }
 
-        /** How many crews at a unit can work; each is sent to where it is, for that tells where it is. */
+        private char causeAt(int unit) {
+            if (strike > 0) {
+                return 's';
+            }
+            char cause = 'c';
+            for (int crew = 0; crew < crews; crew++) {
+                if (unitOfCrew(crew) == unit) {
+                    boolean isNoisy = held("crews", crew, "trade").equals('n');
+                    cause = isNoisy || cause == 'q' ? 'q' : 'p';
+                }
+            }
+            return cause;
+        }
+
         private int workersAt(int unit) {
             int workers = 0;
             for (int crew = 0; crew < crews; crew++) {
-                boolean can = x.canWork(crew);
-                int at = x.send(crew, -1);
-                x.send(crew, at);
-                workers += can && at == unit ? 1 : 0;
+                workers += x.canWork(crew) && unitOfCrew(crew) == unit ? 1 : 0;
             }
             return workers;
+        }
+
+        /** Where a crew is, which only sending it away tells. */
+        private int unitOfCrew(int crew) {
+            int unit = x.send(crew, -1);
+            x.send(crew, unit);
+            return unit;
         }
     }
 }

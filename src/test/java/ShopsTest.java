@@ -14,6 +14,7 @@ public final class ShopsTest {
         promise20MayBeShut();
         promise21Seen();
         promise21SeenFromAStall();
+        promise21SeenBesideTheEnds();
         promise22Known();
         promise23IsDusty();
         Due.end("ShopsTest");
@@ -286,6 +287,20 @@ public final class ShopsTest {
         Due.is("lost(0, 's')", x.lost(0, 's'), 100);
         x.pass(1);
         Due.is("lost(0, 'h')", x.lost(0, 'h'), 20);
+    }
+
+    private static void promise21SeenBesideTheEnds() {
+        TwofrontArcade x = Streets.of(4, 12);
+        x.plan(0, 9);
+        x.plan(3, 9);
+        x.notice(0, 7);
+        x.notice(3, 7);
+        x.addShop(1, 1, 0, false, 0, 9);
+        x.pass(7);
+        x.begin(0);
+        Due.is("seen(0), a hoarding at the unit 0", x.seen(0), 80);
+        x.begin(3);
+        Due.is("seen(0), one at the last unit too", x.seen(0), 60);
     }
 
     private static void promise22Known() {

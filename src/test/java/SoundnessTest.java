@@ -43,6 +43,10 @@ public final class SoundnessTest {
         Due.is("isSound(), 300 pass 300", x.isSound(), true);
         set(x, "units", 5, "width", 11);
         Due.is("areWide(), 300 pass 275", x.areWide(), false);
+        TwofrontArcade y = street();
+        y.addShop(1, 1, 0, false, 0, 9);
+        set(y, "shops", 1, "people", 251);
+        Due.is("areWide(), 251 pass the hoarding at the unit 0", y.areWide(), false);
     }
 
     private static void works() throws ReflectiveOperationException {
@@ -61,6 +65,12 @@ public final class SoundnessTest {
         Due.is("isSound(), one planned rests", z.isSound(), true);
         set(z, "units", 2, "work", 'w');
         Due.is("isSound(), one on ahead of another", z.isSound(), false);
+        set(z, "units", 0, "work", 'p');
+        z.rest(0, 4);
+        set(z, "units", 2, "work", 'p');
+        set(z, "units", 0, "work", 'w');
+        Due.is("isSound(), the first one on ahead of another", z.isSound(), false);
+        set(z, "units", 2, "work", 'w');
         set(z, "units", 4, "work", 'd');
         Due.is("isSound(), one on behind another", z.isSound(), true);
     }

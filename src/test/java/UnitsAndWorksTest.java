@@ -7,6 +7,7 @@ public final class UnitsAndWorksTest {
         promise4Plan();
         promise5Rest();
         promise5RestByHoweverMany();
+        promise5RestOnTwo();
         promise6Notice();
         promises7And8WorkAndLeft();
         promise9WhyNot();
@@ -136,6 +137,24 @@ public final class UnitsAndWorksTest {
         Due.is("rest(7, 6), by seven", x.rest(7, 6), true);
         Due.fails("rest(3, 0), by nine", x, Due.BAD, () -> x.rest(3, 0));
         Due.fails("rest(6, 4), by two", x, Due.BAD, () -> x.rest(6, 4));
+    }
+
+    private static void promise5RestOnTwo() {
+        TwofrontArcade x = Streets.of(4, 8);
+        for (int unit = 0; unit < 3; unit++) {
+            x.plan(unit, 1);
+            x.notice(unit, 7);
+        }
+        Due.is("rest(2, 0)", x.rest(2, 0), false);
+        Due.is("rest(2, 1)", x.rest(2, 1), false);
+        Due.is("rest(2, 0), of two", x.rest(2, 0), true);
+        Due.is("rest(2, 1), of two", x.rest(2, 1), true);
+        x.addCrew('n');
+        x.pass(7);
+        Streets.finish(x, 1);
+        Due.is("whyNot(2), one of two is done", x.whyNot(2), 'r');
+        Streets.finish(x, 0);
+        Due.is("whyNot(2), both are done", x.whyNot(2), '-');
     }
 
     private static void promise6Notice() {
