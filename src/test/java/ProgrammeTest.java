@@ -276,7 +276,7 @@ public final class ProgrammeTest {
         }
     }
 
-    /** Tries starts by units from the lowest one, so that the first programme of so many days is the one that is due. */
+    /** Tries starts by units from the lowest one: the first programme of so many days is the one that is due. */
     private static boolean isThere(int unit, int days, int[] lengths, boolean[] isFree, boolean[][] walls,
             boolean[][] rests, int[] starts) {
         if (unit == UNITS) {
