@@ -130,13 +130,14 @@ public final class UnitsAndWorksTest {
         }
         // a chain in which each rests on the one seven units on, so that no order of numbers helps
         for (int step = 0; step < 9; step++) {
-            int from = step * 7 % 10;
+            int from = (3 + step * 7) % 10;
             Due.is("rest(" + from + ", ..)", x.rest(from, (from + 7) % 10), false);
         }
-        Due.is("rest(0, 3), by nine", x.rest(0, 3), true);
-        Due.is("rest(7, 6), by seven", x.rest(7, 6), true);
-        Due.fails("rest(3, 0), by nine", x, Due.BAD, () -> x.rest(3, 0));
-        Due.fails("rest(6, 4), by two", x, Due.BAD, () -> x.rest(6, 4));
+        Due.fails("rest(6, 3), by nine", x, Due.BAD, () -> x.rest(6, 3));
+        Due.fails("rest(7, 3), by two", x, Due.BAD, () -> x.rest(7, 3));
+        Due.is("rest(3, 7), by two", x.rest(3, 7), true);
+        Due.is("rest(7, 9), by six", x.rest(7, 9), true);
+        Due.is("rest(3, 6), by nine", x.rest(3, 6), true);
     }
 
     private static void promise5RestOnTwo() {
