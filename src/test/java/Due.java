@@ -1,6 +1,7 @@
 import java.lang.reflect.Array;
 import java.lang.reflect.Field;
 import java.lang.reflect.Modifier;
+import java.util.List;
 
 /** Compares answers with those that are due, and counts the wrong ones. */
 final class Due {
@@ -19,6 +20,11 @@ final class Due {
     /** A call whose answer is thrown away. */
     interface Call {
         void run();
+    }
+
+    /** A call with a number that a test varies. */
+    interface Numbered {
+        void run(int number);
     }
 
     static void is(String call, long got, long want) {
@@ -51,6 +57,7 @@ final class Due {
 
     /** The call must throw just this exception, by a throw of the class itself, and change nothing. */
     static void fails(String name, TwofrontArcade arcade, Class<? extends RuntimeException> want, Call call) {
+        List<String> answers = Answers.of(arcade);
         String before = stateOf(arcade);
         String got = "nothing";
         try {
@@ -60,6 +67,31 @@ final class Due {
         }
         compare(name + " throws", got, want.getName());
         compare(name + " changes", stateOf(arcade).equals(before) ? "nothing" : "something", "nothing");
+        compareAnswers(name, Answers.of(arcade), answers);
+    }
+
+    private static void compareAnswers(String name, List<String> got, List<String> want) {
+        for (int i = 0; i < want.size(); i++) {
+            if (!got.get(i).equals(want.get(i))) {
+                compare("behind " + name + " a call", got.get(i), want.get(i));
+                return;
+            }
+        }
+        compare("behind " + name + " all calls", "as before", "as before");
+    }
+
+    /** Numbers on both sides of those from 0 to below the count are no numbers of a unit, a shop or a crew. */
+    static void noSuch(String name, TwofrontArcade arcade, int count, Numbered call) {
+        for (int number : new int[] {Integer.MIN_VALUE, -1, count, count + 1, Integer.MAX_VALUE}) {
+            fails(name + " of the number " + number, arcade, NO_SUCH, () -> call.run(number));
+        }
+    }
+
+    /** Numbers on both sides of those that are allowed are out of range. */
+    static void outOfRange(String name, TwofrontArcade arcade, int least, int most, Numbered call) {
+        for (int number : new int[] {Integer.MIN_VALUE, least - 1, most + 1, Integer.MAX_VALUE}) {
+            fails(name + " of " + number, arcade, BAD, () -> call.run(number));
+        }
     }
 
     /** All that an object holds, so that a test can tell whether a call changed anything. */

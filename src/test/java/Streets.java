@@ -38,4 +38,11 @@ final class Streets {
         x.pass(x.left(unit));
         x.send(0, -1);
     }
+
+    /** Lets days go by up to one that is told. */
+    static void passTo(TwofrontArcade x, int day) {
+        while (x.day() < day) {
+            x.pass(Math.min(day - x.day(), 30));
+        }
+    }
 }
