@@ -15,6 +15,7 @@ public final class BoundsOfCrewsTest {
         noisyOnlyIfNotQuiet();
         noisyBesideAShopInAUnitAlone();
         hotOnlyIfNoLowerOneDoes();
+        hotThoughOthersDoTheLastDay();
         fourCrewsDoFourDays();
         aStrikeOf1To30Days();
         aStrikeTillALaterEnd();
@@ -59,7 +60,7 @@ public final class BoundsOfCrewsTest {
             }
         }
         Due.is("trades that are none, but are taken", taken, 0);
-        for (char trade : new char[] {0, 'c', 'e', 'g', 'i', 'm', 'o', 'D', 'N', 'H', ' ', (char) ('d' + 256), 0xffff}) {
+        for (char trade : new char[] {0, 'c', 'e', 'g', 'i', 'm', 'o', 'D', 'N', 'H', 'd' + 256, 0xffff}) {
             Due.fails("addCrew of the sign " + (int) trade, x, Due.BAD, () -> x.addCrew(trade));
         }
         Due.is("addCrew('d')", x.addCrew('d'), 0);
@@ -243,6 +244,20 @@ public final class BoundsOfCrewsTest {
         Due.is("canWork(3) in a strike, in which no lower one works", x.canWork(3), false);
     }
 
+    /** A work is on to the end of its last day, so that each crew at it does a day of it, a hot one too. */
+    private static void hotThoughOthersDoTheLastDay() {
+        TwofrontArcade x = Streets.of(2, 12);
+        Streets.beginAt(x, 1, 0, 1);
+        sendAll(x, "dh", 0);
+        sendAll(x, "h", 1);
+        Due.is("canWork(1), a dusty crew with it", x.canWork(1), true);
+        Due.is("canWork(2), a lower hot one working", x.canWork(2), false);
+        x.pass(1);
+        Due.is("work(0) behind its last day", x.work(0), 'd');
+        lost("behind a day of the lower hot crew", x, 1, 0, 0, 0, 1);
+        Due.is("canWork(2), the other work done", x.canWork(2), true);
+    }
+
     /** Each crew does a day of it. */
     private static void fourCrewsDoFourDays() {
         for (int crews = 0; crews <= 4; crews++) {
@@ -319,7 +334,7 @@ public final class BoundsOfCrewsTest {
     /** "if there is no such cause" */
     private static void fourCausesAlone() {
         TwofrontArcade x = Streets.of(1, 12);
-        for (char cause : new char[] {0, 'S', 'C', 'Q', 'P', 'b', 'd', 'o', 'r', 't', 'h', 'm', 'n', (char) ('s' + 256)}) {
+        for (char cause : new char[] {0, 'S', 'C', 'Q', 'P', 'b', 'd', 'o', 'r', 't', 'h', 'm', 's' + 256}) {
             Due.fails("lostDays of the sign " + (int) cause, x, Due.BAD, () -> x.lostDays(0, cause));
         }
         lost("at first", x, 0, 0, 0, 0, 0);

@@ -1,6 +1,6 @@
 import java.math.BigInteger;
 
-/** Promises 37 to 44, each sentence that names a bound: what shops took and lost, what is cut, and the sums over all. */
+/** Promises 37 to 44, each sentence that names a bound: what shops took and lost, what is cut, sums over all. */
 public final class BoundsOfMoneyTest {
     private static final char[] CAUSES = {'h', 'm', 'd', 's'};
 
@@ -198,7 +198,7 @@ public final class BoundsOfMoneyTest {
         }
     }
 
-    /** "first, the hundredths that it is seen ..; then the hundredths that it is known ..; then half": all three cut. */
+    /** "first, the hundredths that it is seen ..; then the hundredths that it is known ..; then half": each is cut. */
     private static void cutOneBehindAnother() {
         TwofrontArcade x = Streets.of(4, 12);
         x.addWall(0, 1);

@@ -1,4 +1,4 @@
-/** Promises 35 and 36, each sentence that names a bound: how long the shortest programme is, and when works begin in it. */
+/** Promises 35 and 36, each sentence that names a bound: how long the shortest programme is, and its begins. */
 public final class BoundsOfProgrammesTest {
     public static void main(String[] args) {
         noWorks();
@@ -216,7 +216,7 @@ public final class BoundsOfProgrammesTest {
         programme("99 and five times 60 days", x, 399, 99, 159, 219, 279, 339, -1, -1, -1, -1, -1);
     }
 
-    /** "that is taken in which the work of the lowest unit, of those not begun, begins earliest, then .. the next one" */
+    /** "in which the work of the lowest unit, of those not begun, begins earliest, then that of the next one" */
     private static void theLowestUnitFirst() {
         programme("five alike", planned(3, 3, 3, 3, 3), 9, 0, 0, 3, 3, 6);
         programme("three alike and room to spare", planned(1, 1, 1, 5), 5, 0, 1, 2, 0);

@@ -2,8 +2,8 @@ import java.util.ArrayList;
 import java.util.List;
 
 /**
- * "A method that throws an exception changes nothing": behind each step of a run every call that would be refused then is
- * made, and all answers from there to the end of the run must be those of the run without them.
+ * "A method that throws an exception changes nothing": behind each step of a run every call that would be refused then
+ * is made, and all answers from there to the end of the run must be those of the run without them.
  */
 public final class RefusedCallsTest {
     private static final int[] NUMBERS = {Integer.MIN_VALUE, -2, -1, 0, 1, 2, 3, 4, 5, Integer.MAX_VALUE};
